@@ -8,6 +8,7 @@ public final class AheadTest {
         wrongNumbers();
         soonByHand();
         soonAtTheEnds();
+        soonAtTheLastTicks();
         soonFromNowOn();
         bests();
         counts();
@@ -107,6 +108,24 @@ public final class AheadTest {
         Due.is("base is top", Due.laid("way;base 200;top 200;hop 20 tell;").soon(0, 1), 1);
     }
 
+    /** Texts found by trying draws, so that LOW comes to 100 just there. */
+    private static void soonAtTheLastTicks() {
+        int[][] lossDrawsTick = {{30, 206, 98}, {25, 48, 99}, {60, 338, 99}, {30, 14, 100}, {65, 94, 100}};
+        for (int[] row : lossDrawsTick) {
+            String text = "way;hop 100 silent;loss " + row[0] + ";draws " + row[1] + ";";
+            int due = row[2] > 99 ? GreatProbes.NONE : row[2];
+            GreatProbes x = Due.laid(text);
+            Due.is("soon of " + text, x.soon(0, 0), due);
+            Due.is("best of " + text, x.best(0), due == GreatProbes.NONE ? due : 0);
+            for (int n = 1; n < row[2]; n++) {
+                x.tick(1);
+                Due.that("not at 100 by tick " + n + " of " + text, x.way(0, 0) != 100);
+            }
+            x.tick(1);
+            Due.is("low at last of " + text, x.way(0, 0), 100);
+        }
+    }
+
     private static int firstTickAt(GreatProbes x, int low) {
         for (int n = 1; n <= 99; n++) {
             x.tick(1);
@@ -158,5 +177,9 @@ public final class AheadTest {
         done.limit(2, 0, 100);
         done.tick(1);
         Due.is("least low of the last", done.count(6), 100);
+        GreatProbes first = Due.laid("way;hop 70 tell;way;");
+        first.tick(9);
+        Due.is("least low of the first", first.count(6), 70);
+        Due.is("the first is done", first.count(7), 1);
     }
 }

@@ -10,6 +10,7 @@ public final class TickTest {
         toldBackByWrongForLow();
         toldBelowBase();
         belowBaseBelievedByAll();
+        nothingAtAllBelievedByAll();
         uncheckedAreLost();
         failsStartAnew();
         ages();
@@ -138,6 +139,19 @@ public final class TickTest {
         low.limit(0, 0, 30);
         low.tick(1);
         Due.way("all: 0 told for 480, base at least", low, 0, 60, 60, 1, 0, 0, 0, 0, 3, 0, 1);
+    }
+
+    private static void nothingAtAllBelievedByAll() {
+        GreatProbes x = Due.laid("way;hop 30 wrong;base 20;believe all;");
+        x.tick(1);
+        Due.way("a probe told 0, but low at least", x, 0, 20, 20, 1, 0, 0, 0, 0, 2, 0, 1);
+        GreatProbes high = Due.laid("way;hop 100 silent;believe all;");
+        high.tick(2);
+        Due.way("two fails", high, 0, 60, 900, 0, 2);
+        high.limit(0, 0, 20);
+        high.kind(0, 0, 1);
+        high.tick(1);
+        Due.way("high alone became another one", high, 0, 60, 60, 1, 0, 0, 0, 0, 5, 2, 1);
     }
 
     private static void uncheckedAreLost() {
