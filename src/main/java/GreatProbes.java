@@ -304,7 +304,7 @@ public final class GreatProbes {
         startTrial(i, belief);
         int sought = trial.sought(trialRules);
         for (int n = 1; n <= MOST_TICKS_AT_ONCE; n++) {
-            trial.goOn(1, trialRules);
+            trial.step(trialRules);
             if (trial.low == sought) {
                 return n;
             }

@@ -140,7 +140,7 @@ public final class ChangesTest {
     }
 
     private static void undoing() {
-        GreatProbes x = new GreatProbes();
+        GreatProbes x = Due.laid("way;hop 700 wrong;loss 0;");
         String[] pictures = new String[7];
         for (int n = 0; n < 7; n++) {
             pictures[n] = withoutUndoable(x);
@@ -172,9 +172,9 @@ public final class ChangesTest {
     }
 
     private static void undoingEachKind() {
-        GreatProbes x = new GreatProbes();
-        x.tick(12);
         for (int n = 0; n < 6; n++) {
+            GreatProbes x = new GreatProbes();
+            x.tick(12);
             String before = withoutUndoable(x);
             switch (n) {
                 case 0: x.tick(3); break;
@@ -187,9 +187,10 @@ public final class ChangesTest {
             Due.that("changed by " + n, !withoutUndoable(x).equals(before));
             Due.is("undo of " + n, x.undo(), 1);
             Due.that("undone " + n, withoutUndoable(x).equals(before));
+            Due.is("the tick can still be undone", x.count(10), 1);
         }
-        Due.is("the tick can still be undone", x.count(10), 1);
-        Due.write(x, "way;");
+        GreatProbes x = Due.written("way;");
+        x.tick(12);
         x.undo();
         Due.is("the text is not undone", x.count(11), 4);
         Due.is("ticks", x.count(1), 0);

@@ -1,14 +1,44 @@
+import java.io.IOException;
+import java.nio.file.Files;
+import java.nio.file.Path;
+import java.util.function.Supplier;
+import java.util.function.ToIntFunction;
+
 /** What the tests share: told answers are compared, wrong ones printed and counted. */
 final class Due {
+    private static final Path DOCUMENT = Path.of("../shared/DOC.md");
     private static int wrong = 0;
+    private static String sentence = "";
+    private static String document = null;
 
     private Due() {
     }
 
+    /** Names the words of the document to which the answers behind this are held; they must stand there just so. */
+    static void sentence(String words) {
+        sentence = "[" + words + "] ";
+        that("these words stand in the document", document().isEmpty() || document().contains(words));
+    }
+
+    private static String document() {
+        if (document == null) {
+            try {
+                document = Files.exists(DOCUMENT) ? Files.readString(DOCUMENT).replaceAll("\\s+", " ") : "";
+            } catch (IOException e) {
+                document = "";
+            }
+        }
+        return document;
+    }
+
+    private static void tellWrong(String what) {
+        wrong++;
+        System.out.println(sentence + what);
+    }
+
     static void is(String call, int got, int want) {
         if (got != want) {
-            wrong++;
-            System.out.println(call + " answered " + got + ", due is " + want);
+            tellWrong(call + " answered " + got + ", due is " + want);
         }
     }
 
@@ -18,16 +48,22 @@ final class Due {
 
     /** Writes the text behind what stands, letter by letter. */
     static void write(GreatProbes x, String text) {
+        int before = x.count(11);
         for (int n = 0; n < text.length(); n++) {
-            int before = x.count(11);
-            is("write(" + (int) text.charAt(n) + ") in " + text, x.write(text.charAt(n)), before + 1);
+            is("write(" + (int) text.charAt(n) + ") in " + text, x.write(text.charAt(n)), before + n + 1);
         }
+    }
+
+    /** A new object with this text written. */
+    static GreatProbes written(String text) {
+        GreatProbes x = new GreatProbes();
+        write(x, text);
+        return x;
     }
 
     /** A new object with this text laid. */
     static GreatProbes laid(String text) {
-        GreatProbes x = new GreatProbes();
-        write(x, text);
+        GreatProbes x = written(text);
         that("lay() of " + text, x.lay() > 0);
         return x;
     }
@@ -45,11 +81,13 @@ final class Due {
         for (int what = 0; what <= 11; what++) {
             all.append(x.count(what)).append(' ');
         }
-        for (int i = 0; i < x.count(0); i++) {
+        int ways = x.count(0);
+        for (int i = 0; i < ways; i++) {
+            int hops = x.way(i, 11);
             for (int what = 0; what <= 12; what++) {
                 all.append(x.way(i, what)).append(' ');
             }
-            for (int h = 0; h < x.way(i, 11); h++) {
+            for (int h = 0; h < hops; h++) {
                 all.append(x.hop(i, h, 0)).append(' ').append(x.hop(i, h, 1)).append(' ');
             }
         }
@@ -57,10 +95,32 @@ final class Due {
     }
 
     static void unchanged(String call, GreatProbes x, String before) {
-        if (!picture(x).equals(before)) {
-            wrong++;
-            System.out.println(call + " changed " + before + " to " + picture(x));
+        String behind = picture(x);
+        if (!behind.equals(before)) {
+            tellWrong(call + " changed " + before + " to " + behind);
         }
+    }
+
+    /** A refused call: the answer that is due, and the object behind it goes on as one on which it was not called. */
+    static void refuses(String call, Supplier<GreatProbes> made, ToIntFunction<GreatProbes> called, int want) {
+        GreatProbes x = made.get();
+        is(call, called.applyAsInt(x), want);
+        same(call, x, made.get());
+    }
+
+    /** Compares what stands, what can be undone and what the text lays; of no use behind it are both objects. */
+    static void same(String call, GreatProbes x, GreatProbes y) {
+        unchanged(call, x, picture(y));
+        is(call + ", then draw(0, 1)", x.draw(0, 1), y.draw(0, 1));
+        is(call + ", then ahead(99, 0, 4)", x.ahead(99, 0, 4), y.ahead(99, 0, 4));
+        int more = y.count(10);
+        for (int n = 0; n < more; n++) {
+            is(call + ", then undo()", x.undo(), y.undo());
+            unchanged(call + ", then undo()", x, picture(y));
+        }
+        is(call + ", then undo()", x.undo(), GreatProbes.NO);
+        is(call + ", then lay()", x.lay(), y.lay());
+        unchanged(call + ", then lay()", x, picture(y));
     }
 
     static void end() {

@@ -40,12 +40,8 @@ public final class TextTest {
         Due.is("the text stays full", x.write('w'), GreatProbes.FULL);
         Due.is("wipe", x.wipe(), 240);
         Due.is("write behind wipe", x.write('w'), 1);
-        x.wipe();
-        Due.write(x, "way;" + "age 1;".repeat(38) + "loss 999");
-        Due.is("fault of a full text that breaks off", x.fault(), 232);
-        x.wipe();
-        Due.write(x, "way;" + "age 1;".repeat(38) + "way;hop ");
-        Due.is("fault of a full text that breaks off in a hop", x.fault(), 236);
+        faultAt("way;" + "age 1;".repeat(38) + "loss 999", 232);
+        faultAt("way;" + "age 1;".repeat(38) + "way;hop ", 236);
     }
 
     private static void goodTexts() {
