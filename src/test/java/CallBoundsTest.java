@@ -8,6 +8,7 @@ public final class CallBoundsTest {
 
     public static void main(String[] args) {
         sends();
+        sentAtMost();
         limits();
         kinds();
         losses();
@@ -80,6 +81,27 @@ public final class CallBoundsTest {
         GreatProbes four = Due.laid("way;way;way;way;");
         Due.is("the fourth", four.send(3, 999), 0);
         Due.is("no fifth one", four.send(4, 999), BAD);
+    }
+
+    /** 512 calls come nowhere near 99999 LETTERS: 9999 TICKS of two on each WAY, and the rest of the calls; so none is refused. */
+    private static void sentAtMost() {
+        Due.sentence("NO: 99999 were sent.");
+        String text = "way;hop 60 silent;".repeat(4) + "age 1;";
+        GreatProbes x = Due.laid(text);
+        int calls = text.length() + 2;
+        for (int n = 0; n < 101; n++) {
+            x.tick(99);
+            calls++;
+        }
+        int sent = x.count(8);
+        calls++;
+        Due.that("many were sent: " + sent, sent > 75000);
+        for (; calls < 511; calls++) {
+            sent++;
+            Due.that("one more is sent", x.send(calls % 4, 1) >= 0);
+        }
+        Due.is("sent", x.count(8), sent);
+        Due.that("fewer than 99999: " + sent, sent < 99999);
     }
 
     private static void limits() {
@@ -234,6 +256,15 @@ public final class CallBoundsTest {
             Due.is("undo of " + which, x.undo(), 1);
             Due.same("undone " + which, x, same);
         }
+        GreatProbes felt = Due.laid("way;hop 480 silent;");
+        felt.tick(1);
+        felt.limit(0, 0, 400);
+        felt.tick(2);
+        Due.way("two fails, two misses", felt, 0, 480, 900, 0, 2, 2, 0, 0, 6, 4);
+        felt.tick(1);
+        Due.way("fallen", felt, 0, 270, 479, 0, 0, 0, 0, 1, 8, 5);
+        felt.undo();
+        Due.way("two fails, two misses again", felt, 0, 480, 900, 0, 2, 2, 0, 0, 6, 4);
         GreatProbes many = new GreatProbes();
         many.tick(99);
         Due.is("99 ticks are one change", many.count(10), 1);
@@ -540,6 +571,12 @@ public final class CallBoundsTest {
         Due.is("sent", all.count(8), 0);
         all.tick(1);
         Due.is("one each", all.count(8), 4);
+        GreatProbes first = Due.laid("way;hop 200 tell;way;base 200;top 203;");
+        first.tick(1);
+        Due.is("the first alone is done", first.count(7), 1);
+        GreatProbes last = Due.laid("way;way;hop 200 tell;base 200;top 203;");
+        last.tick(1);
+        Due.is("the last alone is done", last.count(7), 1);
         GreatProbes none = Due.laid("way;way;way;way;top 999;");
         Due.is("none is done", none.count(7), 0);
         none.tick(99);

@@ -23,6 +23,7 @@ public final class TextBoundsTest {
         ages();
         beliefs();
         drawsBy();
+        withoutThem();
         lastOneCounts();
         firstFault();
         noWayAhead();
@@ -340,6 +341,21 @@ public final class TextBoundsTest {
         Due.is("without", Due.laid("way;").draw(0, 0), 1);
         Due.is("0", Due.laid("way;draws 0;").draw(0, 0), 1);
         Due.is("9999", Due.laid("way;draws 9999;").draw(0, 0), 51303);
+    }
+
+    /** What an earlier text told is gone, too. */
+    private static void withoutThem() {
+        Due.sentence("LOSS of the latest WAY (0 without)");
+        GreatProbes x = Due.laid("way;hop 20 old;loss 9;base 20;top 999;age 9;believe none;draws 9;");
+        x.wipe();
+        Due.write(x, "way;");
+        x.lay();
+        Due.way("without", x, 0, 60, 900, 0, 0, 0, 0, 0, 0, 0, 0, 999, 0, 0);
+        int[] due = {1, 0, 60, 900, 20, 1};
+        for (int what = 0; what < due.length; what++) {
+            Due.is("without: count(" + what + ")", x.count(what), due[what]);
+        }
+        Due.is("without: draw(0, 0)", x.draw(0, 0), 1);
     }
 
     private static void lastOneCounts() {

@@ -1,8 +1,11 @@
+import java.math.BigInteger;
+
 /** The sentences on LETTERS and TICKS that name a bound, each just at it and just beyond it: promises 6 and 7, and their terms. */
 public final class TickBoundsTest {
     public static void main(String[] args) {
         lostByLoss();
         countedSinceLaid();
+        countedBeyondDraws();
         limitIsBelowSize();
         toldBack();
         arrives();
@@ -63,6 +66,34 @@ public final class TickBoundsTest {
             x.lay();
             Due.is("laid again", x.way(0, 7), 0);
         }
+    }
+
+    /** draw() tells no more than 10000 of them, but a WAY may send nearly twice as many LETTERS. */
+    private static void countedBeyondDraws() {
+        Due.sentence("DRAW k (0 on) of WAY i: (x times x) modulo 65521, x being 7919 Z, 6151 i, 3571 k and 1 together.");
+        GreatProbes x = Due.laid("way;way;hop 20 silent;loss 50;age 1;draws 9999;");
+        x.kind(1, 0, 0);
+        x.limit(1, 0, 999);
+        int lost = 0;
+        for (int n = 0; n < 101; n++) {
+            lost += x.tick(99);
+        }
+        int sent = x.way(1, 7);
+        int due = 0;
+        for (int k = 0; k < sent; k++) {
+            due += isBelow(9999, 1, k, 50) ? 1 : 0;
+        }
+        Due.that("more letters than draw() tells: " + sent, sent > 10000);
+        Due.is("lost", x.way(1, 8), due);
+        Due.is("lost by tick()", lost, due);
+        for (int k = sent; k < sent + 20; k++) {
+            Due.is("letter " + k, x.send(1, 1), isBelow(9999, 1, k, 50) ? 1 : 0);
+        }
+    }
+
+    private static boolean isBelow(int z, int i, int k, int loss) {
+        BigInteger sum = BigInteger.valueOf(7919L * z + 6151L * i + 3571L * k + 1);
+        return sum.multiply(sum).mod(BigInteger.valueOf(65521)).intValue() % 100 < loss;
     }
 
     private static void limitIsBelowSize() {
@@ -322,6 +353,9 @@ public final class TickBoundsTest {
         less.believe(0);
         less.tick(1);
         Due.way("all: 160 is told, the fails are gone", less, 0, 200, 200, 1, 0, 0, 0, 0, 6, 2, 1);
+        GreatProbes nothing = Due.laid("way;hop 20 wrong;base 20;top 200;believe all;");
+        nothing.tick(1);
+        Due.way("all: 0 is told", nothing, 0, 20, 20, 1, 0, 0, 0, 0, 2, 0, 1);
     }
 
     private static void threeFails() {
