@@ -1,15 +1,11 @@
-import java.io.IOException;
-import java.nio.file.Files;
-import java.nio.file.Path;
 import java.util.function.Supplier;
 import java.util.function.ToIntFunction;
 
 /** What the tests share: told answers are compared, wrong ones printed and counted. */
 final class Due {
-    private static final Path DOCUMENT = Path.of("../shared/DOC.md");
     private static int wrong = 0;
     private static String sentence = "";
-    private static String document = null;
+    private static boolean hasLostItsWay = false;
 
     private Due() {
     }
@@ -17,18 +13,27 @@ final class Due {
     /** Names the words of the document to which the answers behind this are held; they must stand there just so. */
     static void sentence(String words) {
         sentence = "[" + words + "] ";
-        that("these words stand in the document", document().isEmpty() || document().contains(words));
+        that("these words stand in the document", Document.has(words));
     }
 
-    private static String document() {
-        if (document == null) {
-            try {
-                document = Files.exists(DOCUMENT) ? Files.readString(DOCUMENT).replaceAll("\\s+", " ") : "";
-            } catch (IOException e) {
-                document = "";
-            }
+    /** As sentence(), and they must come just behind the ones named or passed over ahead of them. */
+    static void next(String words) {
+        sentence = "[" + words + "] ";
+        comesNext(words);
+    }
+
+    /** Headings and the like, that say nothing which a call could break. */
+    static void passOver(String words) {
+        sentence = "";
+        comesNext(words);
+    }
+
+    /** Told once: where the walk has lost its way, all that comes behind would be told, too. */
+    private static void comesNext(String words) {
+        if (!Document.goesOn(words) && !hasLostItsWay) {
+            hasLostItsWay = true;
+            tellWrong("not what comes next in the document: " + words + "; there stands: " + Document.next());
         }
-        return document;
     }
 
     private static void tellWrong(String what) {

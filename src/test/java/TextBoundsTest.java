@@ -47,11 +47,13 @@ public final class TextBoundsTest {
         Due.refuses("lay of " + text, () -> changed(text), GreatProbes::lay, GreatProbes.NO);
     }
 
-    /** One with changes that can be undone, on which a refused lay would show. */
+    /** One with changes that can be undone, on which a refused lay would show; behind a long text one, since calls are few. */
     private static GreatProbes changed(String text) {
         GreatProbes x = Due.written(text);
         x.tick(3);
-        x.believe(0);
+        if (text.length() < 200) {
+            x.believe(0);
+        }
         return x;
     }
 
