@@ -198,9 +198,16 @@ final class DocumentAsked {
         Due.is("no way", x.best(-1), BAD);
         x.believe(0);
         Due.is("whatever is believed", x.best(2), 1);
+        // 212 is told 204, then 200, 202, 203, 204; by none 212 is lost thrice, then 204
+        GreatProbes later = Due.laid("way;hop 204 tell;base 196;top 227;");
+        Due.is("all: at the fifth", later.soon(0, 0), 5);
+        Due.is("none: at the fourth", later.soon(0, 2), 4);
+        Due.is("the least, not the lowest", later.best(0), 2);
         GreatProbes all = Due.laid("way;hop 197 silent;way;hop 20 silent;base 20;top 200;");
         Due.is("all three", all.best(0), 0);
         Due.is("all three at once", all.best(1), 0);
+        Due.is("at the 99th", Due.laid("way;hop 100 silent;loss 25;draws 48;").best(0), 0);
+        Due.is("at the 100th", Due.laid("way;hop 100 silent;loss 30;draws 14;").best(0), NONE);
     }
 
     private static void count() {
@@ -234,6 +241,12 @@ final class DocumentAsked {
         Due.is("the least low", x.count(6), 196);
         for (int what : new int[] {-1, 12, 13, Integer.MIN_VALUE, Integer.MAX_VALUE}) {
             Due.is("count(" + what + ")", x.count(what), BAD);
+        }
+        GreatProbes four = Due.laid("way;way;way;way;hop 199 silent;base 200;top 200;");
+        four.tick(2);
+        int[] all = {4, 2, 200, 200, 20, 1, 200, 4, 8, 2, 1, 48};
+        for (int what = 0; what < all.length; what++) {
+            Due.is("of four ways: count(" + what + ")", four.count(what), all[what]);
         }
     }
 }

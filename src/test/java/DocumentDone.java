@@ -79,6 +79,7 @@ final class DocumentDone {
         Due.passOver("## Promise 4: fault `int fault()`:");
         Due.next("FAULT of THE TEXT. NONE.");
         GreatProbes x = new GreatProbes();
+        Due.is("fault of nothing", x.fault(), NONE);
         String text = "top 300;way;hop 30 old;";
         int[] starts = {0, 8, 12};
         for (int n = 0; n < text.length(); n++) {

@@ -106,8 +106,10 @@ final class DocumentLetters {
     private static void atFirst() {
         Due.next("Each WAY has LOW (BASE at first), HIGH (TOP at first), STATE (0 SEARCHING, 1 DONE; at first 0; DONE, if LOW is HIGH), FAILS, MISSES, AGED"
             + " (0 at first each).");
-        GreatProbes x = Due.laid("way;hop 90 silent;way;loss 50;base 123;top 456;");
-        x.tick(20);
+        GreatProbes x = Due.laid("way;hop 90 silent;way;hop 123 tell;base 123;top 456;");
+        x.tick(5);
+        Due.way("way 0 was felt for", x, 0, 123, 289, 0, 2, 2, 0, 0, 10, 10, 0);
+        Due.way("way 1 was found", x, 1, 123, 123, 1, 0, 0, 4, 0, 6, 0, 1);
         x.lay();
         for (int i = 0; i < 2; i++) {
             Due.way("way " + i, x, i, 123, 456, 0, 0, 0, 0, 0, 0, 0, 0);

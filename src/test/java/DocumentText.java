@@ -102,6 +102,7 @@ final class DocumentText {
         Due.is("no 241st", x.write(';'), GreatProbes.FULL);
         Due.is("240 letters", x.count(11), 240);
         Due.is("one of 239 more", Due.written(most.substring(1)).write('x'), 240);
+        faultAt(232, "way;" + "top 300;".repeat(28) + "way;loss 777", "way;" + "top 300;".repeat(28) + "way;loss  77");
     }
 
     private static void itemsAndMarks() {
@@ -212,6 +213,15 @@ final class DocumentText {
         Due.is("7", Due.laid("draws 7;way;").draw(0, 0), 58977);
         Due.is("9999", Due.laid("way;draws 9999;").draw(0, 0), 51303);
         faultAt(0, "draws 10000;", "draws;", "draws -1;", "draws all;");
+        GreatProbes x = Due.laid("way;draws 7;loss 7;base 77;top 777;age 7;believe all;hop 77 old;");
+        x.wipe();
+        Due.write(x, "way;");
+        x.lay();
+        Due.is("without, behind a text with it", x.draw(0, 0), 1);
+        int[] due = {1, 0, 60, 900, 20, 1, 60};
+        for (int what = 0; what < due.length; what++) {
+            Due.is("without all: count(" + what + ")", x.count(what), due[what]);
+        }
     }
 
     private static void lastCounts() {

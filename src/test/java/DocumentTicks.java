@@ -79,6 +79,10 @@ final class DocumentTicks {
         wrong.believe(0);
         wrong.tick(1);
         Due.way("159 is told", wrong, 0, 196, 196, 1, 0, 0, 1, 0, 7, 0, 1);
+        GreatProbes nothing = doneAt200(20, WRONG);
+        nothing.believe(0);
+        nothing.tick(1);
+        Due.way("0 is told", nothing, 0, 196, 196, 1, 0, 0, 1, 0, 7, 0, 1);
         GreatProbes searching = from196("hop 999 tell;");
         searching.tick(1);
         Due.way("searching", searching, 0, 198, 200, 0, 0, 0, 0, 0, 2, 0, 0);
@@ -183,6 +187,9 @@ final class DocumentTicks {
         GreatProbes less = from196("hop 197 wrong;believe all;");
         less.tick(1);
         Due.way("157 is told", less, 0, 196, 196, 1, 0, 0, 0, 0, 2, 0, 1);
+        GreatProbes nothing = Due.laid("way;hop 30 wrong;base 20;top 200;believe all;");
+        nothing.tick(1);
+        Due.way("0 is told", nothing, 0, 20, 20, 1, 0, 0, 0, 0, 2, 0, 1);
         GreatProbes unchecked = from196("hop 197 wrong;");
         unchecked.tick(1);
         Due.way("157 is lost", unchecked, 0, 196, 200, 0, 1, 0, 0, 0, 2, 1, 0);
@@ -219,6 +226,14 @@ final class DocumentTicks {
         Due.way("it was searching: not older", narrowed, 0, 196, 196, 1, 0, 0, 0, 0, 1, 0, 1);
         narrowed.tick(1);
         Due.way("it was done", narrowed, 0, 196, 200, 0, 0, 0, 0, 0, 2, 0, 2);
+        GreatProbes told = doneAt200(199, TELL);
+        told.tick(1);
+        Due.way("done and told less, no probe: older", told, 0, 199, 199, 1, 0, 0, 1, 0, 7, 0, 1);
+        GreatProbes fallen = Due.laid("way;hop 999 silent;base 198;top 200;");
+        fallen.tick(2);
+        fallen.limit(0, 0, 199);
+        fallen.tick(3);
+        Due.way("done and fallen, a probe was sent: not older", fallen, 0, 199, 199, 1, 0, 0, 2, 1, 8, 3, 0);
         GreatProbes top = from196("age 2;");
         top.tick(4);
         Due.way("at top: aged 1", top, 0, 200, 200, 1, 0, 0, 1, 0, 7, 0, 0);
