@@ -1,10 +1,12 @@
 import java.lang.reflect.Constructor;
 import java.lang.reflect.Field;
+import java.lang.reflect.InvocationTargetException;
 import java.lang.reflect.Method;
 import java.lang.reflect.Modifier;
 import java.nio.file.Files;
 import java.nio.file.Path;
 import java.util.Arrays;
+import java.util.Random;
 import java.util.TreeSet;
 
 /** The document's public face, and what of LANGUAGE.md can be seen from outside or in the words of the file. */
@@ -17,6 +19,7 @@ public final class FaceTest {
         methods();
         fieldsAndClasses();
         words();
+        nothingIsThrown();
         Due.end();
     }
 
@@ -79,5 +82,47 @@ public final class FaceTest {
         }
         Due.that("the file has -> or ::", !code.contains("->") && !code.contains("::"));
         Due.that("the file has signs of 127 at most", source.chars().allMatch(c -> c < 127));
+    }
+
+    /** By rule 7 of LANGUAGE.md no call may throw in any state, so this run goes on where the document promises no answers. */
+    private static void nothingIsThrown() throws Exception {
+        Random random = new Random(22);
+        int[] odd = {0, 1, -1, 2, 3, 4, 5, 6, 7, 11, 12, 13, 19, 20, 59, 60, 99, 100, 240, 998, 999, 1000, 9999, 10000, 65536, -65536,
+            Integer.MAX_VALUE, Integer.MIN_VALUE, Integer.MAX_VALUE - 1};
+        String text = "way;hop 999 old;hop 20 wrong;way;way;hop 333 silent;loss 99;way;hop 640 tell;base 20;top 999;age 1;believe all;draws 9999;";
+        Method[] calls = Arrays.stream(GreatProbes.class.getDeclaredMethods()).filter(m -> Modifier.isPublic(m.getModifiers())).toArray(Method[]::new);
+        for (int round = 0; round < 40; round++) {
+            GreatProbes x = new GreatProbes();
+            for (int n = 0; n < 6000; n++) {
+                Method call = calls[random.nextInt(calls.length)];
+                Object[] numbers = new Object[call.getParameterCount()];
+                for (int k = 0; k < numbers.length; k++) {
+                    numbers[k] = odd[random.nextInt(random.nextBoolean() ? 8 : odd.length)];
+                }
+                try {
+                    call.invoke(x, numbers);
+                } catch (InvocationTargetException e) {
+                    Due.that(call.getName() + Arrays.toString(numbers) + " throws " + e.getCause(), false);
+                    return;
+                }
+                if (n % 500 == 250 + round) {
+                    x.wipe();
+                    text.chars().limit(random.nextInt(text.length() * 2)).forEach(x::write);
+                }
+            }
+        }
+        sentWithoutEnd();
+    }
+
+    private static void sentWithoutEnd() {
+        GreatProbes x = new GreatProbes();
+        for (int n = 0; n < 110000; n++) {
+            x.send(n % 3, 999);
+        }
+        for (int n = 0; n < 210; n++) {
+            x.tick(99);
+            x.ahead(99, 0, 4);
+            x.best(n % 3);
+        }
     }
 }
